@@ -26,14 +26,15 @@ public final class SandPiano {
 
     private final Shelf rows = new Shelf(ROWS, ROW_SIZE);
     private final Shelf texts = new Shelf(TEXTS, TEXT_SIZE);
-    private final Keys keys = new Keys();
+    private final Search search = new Search();
+    // The piano's keys are the ones that are searched.
+    private final Keys keys = search.keys;
     private final Sand now = new Sand();
     private final Sand aside = new Sand();
     private final Sand asideToo = new Sand();
     private final Story story = new Story();
     private final Story[] kept = new Story[KEPT];
     private final Reader reader = new Reader();
-    private final Search search = new Search(keys);
     private final int[] found = new int[SIZE + 1];
     private int lastFound;
     private int told;
@@ -1166,7 +1167,7 @@ public final class SandPiano {
         // The least number that 1 .. 6 choices divide: shares stay whole.
         private static final long SHARES = 60;
 
-        private final Keys keys;
+        final Keys keys = new Keys();
         private final Sand[] behind = new Sand[MOST_KEYS + 1];
         private final int[] way = new int[MOST_KEYS];
         private final int[] first = new int[MOST_KEYS];
@@ -1175,8 +1176,7 @@ public final class SandPiano {
         private int top;
         private int topPay;
 
-        Search(Keys keys) {
-            this.keys = keys;
+        Search() {
             for (int depth = 0; depth <= MOST_KEYS; depth++) {
                 behind[depth] = new Sand();
             }

@@ -175,6 +175,9 @@ public final class PromiseTest {
     fill(x, 2, 1, 2, 2);
     due("mean(2)", x.mean(2), 1);
     due("mean(2) told", x.asked(), 1);
+    fill(x, 2, 6);
+    due("mean(2) of one", x.mean(2), 1);
+    due("mean(2) of one, told", x.asked(), 6);
     fill(x, 2, -1, -2, -2);
     x.mean(2);
     due("mean(2), cut", x.asked(), -1);
@@ -331,6 +334,7 @@ public final class PromiseTest {
     refuses("mark(0, -1)", x, BAD, () -> x.mark(0, -1));
     refuses("mark(6, 1)", x, BAD, () -> x.mark(6, 1));
     refuses("mark(-1, 3)", x, BAD, () -> x.mark(-1, 3));
+    due("a crab behind the first key", piano("p1k0070c0000").mark(1, 3), 7);
     SandPiano y = piano("p1k5000s9080b9000");
     due("a shell with less", y.mark(1, 2), 0);
     due("an empty bass", y.mark(2, 1), 0);
@@ -420,7 +424,7 @@ public final class PromiseTest {
     due("sea", x.count(3), 27);
     refuses("tide(10)", x, BAD, () -> x.tide(10));
     refuses("tide(-1)", x, BAD, () -> x.tide(-1));
-    for (int i = 0; i < 57; i++) x.tide(1);
+    for (int i = 0; i < 57; i++) due("tide(1)", x.tide(1), 1);
     refuses("the 61st", x, FULL, () -> x.tide(1));
     refuses("the 61st, bad", x, BAD, () -> x.tide(10));
     SandPiano y = new SandPiano();
@@ -440,7 +444,7 @@ public final class PromiseTest {
     due("deeds", x.count(1), 3);
     refuses("storm(2)", x, BAD, () -> x.storm(2));
     refuses("storm(-1)", x, BAD, () -> x.storm(-1));
-    for (int i = 0; i < 57; i++) x.storm(1);
+    for (int i = 0; i < 57; i++) due("storm(1) again", x.storm(1), i == 0 ? 2 : 0);
     refuses("the 61st", x, FULL, () -> x.storm(1));
     SandPiano y = piano("p1k0070");
     due("one key, storm(0)", y.storm(0), 7);
@@ -462,7 +466,7 @@ public final class PromiseTest {
     due("dug keys earn none", x.count(4), 0);
     refuses("dig(2)", x, BAD, () -> x.dig(2));
     refuses("dig(-1)", x, BAD, () -> x.dig(-1));
-    for (int i = 0; i < 57; i++) x.dig(0);
+    for (int i = 0; i < 57; i++) due("dig(0) again", x.dig(0), 0);
     refuses("the 61st", x, FULL, () -> x.dig(0));
     refuses("the 61st, bad", x, BAD, () -> x.dig(2));
     SandPiano y = new SandPiano();
@@ -606,6 +610,12 @@ public final class PromiseTest {
     fill(x, 1, 7, 7);
     due("too many", x.digs(0, 1), NONE);
     row("too many, the row stays", x, 1, 7, 7);
+    SandPiano t = piano("p1k0040k0050");
+    fill(t, 0, 0);
+    due("four", t.digs(0, 1), 4);
+    row("four", t, 1, 0, 0, 0, 0);
+    fill(t, 0, 1);
+    due("five", t.digs(0, 1), NONE);
     fill(x, 3, 2);
     due("to itself", x.digs(3, 3), 1);
     row("to itself", x, 3, 2);
@@ -662,6 +672,12 @@ public final class PromiseTest {
     due("the first can't", x.duet(1, 0), 0);
     fill(x, 0, 1, 0, 1, 1, 1, 0, 1, 0, 1, 1);
     due("both throw aside", x.duet(1, 0), 10);
+    SandPiano y = piano("p1k9050k0000");
+    y.keep(0);
+    fill(y, 0, 0, 1, 0, 1, 1);
+    due("this one throws", y.duet(0, 0), 4);
+    fill(y, 0, 1, 0, 1, 1, 1);
+    due("the kept one throws", y.duet(0, 0), 3);
     sand("aside", x, 0, 3, 1);
     x.on(1);
     sand("kept aside", x, 0, 2, 1);
@@ -690,6 +706,9 @@ public final class PromiseTest {
     due("from the right", z.most(5), 3);
     row("from the right", z, 5, 2, 1, 0);
     sand("aside", z, 0, 1, 1, 1);
+    SandPiano t = piano("p1r0000k0990r0000");
+    due("of alike ones the first", t.most(5), 2);
+    row("of alike ones the first", t, 5, 0, 2);
     SandPiano w = piano("p1k0010");
     fill(w, 1, 4);
     due("none", w.most(1), 0);
@@ -776,6 +795,17 @@ public final class PromiseTest {
     row("back(0, 2, 1)", x, 1, 0, 1);
     due("back(0, 3, 1)", x.back(0, 3, 1), 0);
     row("back(0, 3, 1), the row stays", x, 1, 0, 1);
+    fill(x, 0, 6, 3);
+    due("back by one", x.back(0, 1, 1), 1);
+    row("back by one", x, 1, 0);
+    fill(x, 0, 7, 5);
+    due("back by three", x.back(0, 3, 1), 0);
+    fill(x, 0, 7, 3);
+    due("back by three", x.back(0, 3, 1), 3);
+    row("back by three", x, 1, 0, 0, 1);
+    fill(x, 0, 8, 2);
+    due("back by four", x.back(0, 4, 1), 4);
+    row("back by four", x, 1, 0, 0, 0, 1);
     fill(x, 0, 5, 4);
     due("back(0, 0, 1)", x.back(0, 0, 1), 1);
     row("back(0, 0, 1)", x, 1);
@@ -784,6 +814,8 @@ public final class PromiseTest {
     row("to itself", x, 0, 0, 1);
     SandPiano y = piano("p9c9010k9010");
     y.dig(1);
+    y.row(0, 0);
+    y.judge(0);
     fill(y, 0, 0, 1);
     due("the beach was empty", y.back(0, 1, 1), 0);
     due("a grain by the beach", y.back(0, 2, 1), 1);
@@ -871,6 +903,10 @@ public final class PromiseTest {
     x.at(0, 2);
     due("nowhere", x.strike(0), NONE);
     due("nowhere, told", x.asked(), 5);
+    SandPiano y = piano("p1k0000");
+    y.row(0, 0);
+    due("one key", y.strike(0), 0);
+    due("one key, told", y.asked(), 1);
     SandPiano v = new SandPiano();
     v.row(0, 0);
     due("no keys", v.strike(0), NONE);
@@ -879,20 +915,23 @@ public final class PromiseTest {
 
   private static void tunes() {
     promise = 34;
-    SandPiano x = piano("p1k0010r0000c1000");
-    fill(x, 0, 1);
+    SandPiano x = piano("p1r0000k0010c1000");
+    fill(x, 0, 0);
     due("tune(0)", x.tune(0), 1);
     chances("one of two", x, 1, 2);
-    fill(x, 0, 2, 1);
+    fill(x, 0, 0, 0);
     x.tune(0);
     chances("two notes", x, 1, 4);
-    fill(x, 0, 1, 0);
+    fill(x, 0, 2, 0, 1);
+    x.tune(0);
+    chances("a crab makes three of two", x, 1, 18);
+    fill(x, 0, 0, 1);
     due("one that can't be", x.tune(0), 1);
     chances("one that can't be", x, 0, 1);
     x.row(0, 0);
     due("an empty one", x.tune(0), 1);
     chances("an empty one", x, 1, 1);
-    sand("aside", x, 0, 1, 0, 0);
+    sand("aside", x, 0, 0, 1, 0);
     SandPiano y = piano("p1r0000r0000r0000r0000r0000r0000");
     y.row(0, 12);
     y.tune(0);
@@ -966,6 +1005,7 @@ public final class PromiseTest {
     refuses("wind(1, 0)", x, BAD, () -> x.wind(1, 0));
     refuses("wind(1, -1)", x, BAD, () -> x.wind(1, -1));
     refuses("wind(1, 2147483647)", x, BAD, () -> x.wind(1, HIGH));
+    due("wind(60, 9)", piano("p1r0001").wind(60, 9), 60);
     SandPiano y = piano("p1c1003");
     y.tide(2); y.storm(1);
     due("till none can be", y.wind(58, 7), 2);
@@ -1010,6 +1050,7 @@ public final class PromiseTest {
     x.row(0, 0); x.row(5, 1); x.row(3, 2); x.tear(3); x.text(3, 0);
     int[] due = {5, 3, 1, 6, 1, 3, 2, 2, 1};
     for (int what = 0; what < due.length; what++) due("count(" + what + ")", x.count(what), due[what]);
+    due("a bass ahead", piano("p1b0000k0000d0000").count(5), 2);
     refuses("count(9)", x, BAD, () -> x.count(9));
     refuses("count(-1)", x, BAD, () -> x.count(-1));
     refuses("count(min)", x, BAD, () -> x.count(LOW));
