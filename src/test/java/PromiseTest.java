@@ -1,91 +1,15 @@
 /** For each promise of the document its own calls: ordinary ones, the edges that it names, and wrong ones. */
-public final class PromiseTest {
-  private static final int BAD = -1, FULL = -2, FINDING = -3, STATE = -4, NONE = -9;
-  private static final int NOTHING = 1, BEYOND = 2, UNLIKE = 3, NOUGHT = 4, SIZE = 5;
-  private static final int LOW = Integer.MIN_VALUE, HIGH = Integer.MAX_VALUE;
-  private static int wrong = 0;
-  private static int promise = 0;
-
-  private static void due(String what, long got, long want) {
-    if (got == want) return;
-    wrong++;
-    System.out.println("promise " + promise + ": " + what + " answered " + got + ", due is " + want);
-  }
-  /** A call that must answer FINDING, with the finding told and counted once. */
-  private interface Call { int ask(); }
-  private static void finds(String what, SandPiano x, int finding, Call call) {
-    int before = x.findings(finding);
-    long digest = x.digest();
-    int asked = x.asked();
-    due(what, call.ask(), FINDING);
-    due(what + ", finding()", x.finding(), finding);
-    due(what + ", findings()", x.findings(finding), before + 1);
-    due(what + ", digest()", x.digest(), digest);
-    due(what + ", asked()", x.asked(), asked);
-  }
-  /** A call that is refused without a finding and changes nothing. */
-  private static void refuses(String what, SandPiano x, int answer, Call call) {
-    int all = findingsOf(x);
-    long digest = x.digest();
-    int asked = x.asked();
-    int finding = x.finding();
-    due(what, call.ask(), answer);
-    due(what + ", findings", findingsOf(x), all);
-    due(what + ", finding()", x.finding(), finding);
-    due(what + ", digest()", x.digest(), digest);
-    due(what + ", asked()", x.asked(), asked);
-  }
-  private static int findingsOf(SandPiano x) {
-    int all = 0;
-    for (int f = 1; f <= 5; f++) all += x.findings(f);
-    return all;
-  }
-  private static void write(SandPiano x, int t, String s) {
-    x.text(t, s.length());
-    for (int i = 0; i < s.length(); i++) x.put(t, i, s.charAt(i));
-  }
-  private static SandPiano piano(String s) {
-    SandPiano x = new SandPiano();
-    write(x, 0, s);
-    if (x.piano(0) < 0) due("piano(" + s + ")", -1, 0);
-    return x;
-  }
-  private static void fill(SandPiano x, int r, int... values) {
-    x.row(r, values.length);
-    for (int i = 0; i < values.length; i++) x.lay(r, i, values[i]);
-  }
-  private static void row(String what, SandPiano x, int r, int... values) {
-    for (int i = 0; i < values.length; i++) {
-      due(what + ", place " + i, x.at(r, i), 1);
-      due(what + ", place " + i + " told", x.asked(), values[i]);
-    }
-    due(what + ", its end", x.at(r, values.length), FINDING);
-    due(what + ", what is at its end", x.finding(), BEYOND);
-  }
-  private static void sand(String what, SandPiano x, int beach, int... values) {
-    due(what + ", keys", x.count(0), values.length);
-    for (int i = 0; i < values.length; i++) {
-      x.key(i, 2);
-      due(what + ", sand on " + i, x.asked(), values[i]);
-    }
-    due(what + ", beach", x.count(2), beach);
-  }
-  private static void chances(String what, SandPiano x, long upper, long lower) {
-    due(what + ", upper()", x.upper(), upper);
-    due(what + ", lower()", x.lower(), lower);
-  }
-
+public final class PromiseTest extends Check {
   public static void main(String[] args) {
     newObject(); rows(); moreRows(); texts(); faults(); pianos(); keys(); marks(); spades();
     plays(); tides(); storms(); digsDone(); undone(); kept();
     judged(); earned(); dug(); lasting(); duets(); theMost(); theBest(); countedRows();
     backs(); rings(); strikes(); tunes(); bets(); winds(); told(); counts(); findingsTold(); digests();
-    System.out.println(wrong == 0 ? "all promises hold" : wrong + " answers are not as due");
-    if (wrong != 0) System.exit(1);
+    finish("all promises hold");
   }
 
   private static void newObject() {
-    promise = 1;
+    about("promise 1");
     SandPiano x = new SandPiano();
     for (int what = 0; what <= 8; what++) due("count(" + what + ")", x.count(what), 0);
     due("can()", x.can(), 0);
@@ -107,7 +31,7 @@ public final class PromiseTest {
 
   private static void rows() {
     SandPiano x = new SandPiano();
-    promise = 2;
+    about("promise 2");
     due("row(0, 40)", x.row(0, 40), 40);
     due("row(5, 0)", x.row(5, 0), 0);
     refuses("row(0, 41)", x, BAD, () -> x.row(0, 41));
@@ -119,7 +43,7 @@ public final class PromiseTest {
     x.lay(0, 1, 9);
     due("row(0, 2) anew", x.row(0, 2), 2);
     row("row(0, 2) anew", x, 0, 0, 0);
-    promise = 3;
+    about("promise 3");
     due("lay(0, 1, -7)", x.lay(0, 1, -7), 1);
     due("lay, what it was", x.asked(), 0);
     due("lay(0, 1, max)", x.lay(0, 1, HIGH), 1);
@@ -131,14 +55,14 @@ public final class PromiseTest {
     finds("lay(0, 2, 0)", x, BEYOND, () -> x.lay(0, 2, 0));
     finds("lay(0, -1, 0)", x, BEYOND, () -> x.lay(0, -1, 0));
     finds("lay(5, 0, 0)", x, BEYOND, () -> x.lay(5, 0, 0));
-    promise = 4;
+    about("promise 4");
     due("at(0, 1)", x.at(0, 1), 1);
     due("at(0, 1) told", x.asked(), HIGH);
     refuses("at(6, 0)", x, BAD, () -> x.at(6, 0));
     finds("at(4, 0)", x, NOTHING, () -> x.at(4, 0));
     finds("at(0, 2)", x, BEYOND, () -> x.at(0, 2));
     finds("at(0, min)", x, BEYOND, () -> x.at(0, LOW));
-    promise = 5;
+    about("promise 5");
     due("tear(0)", x.tear(0), 1);
     finds("tear(0) again", x, NOTHING, () -> x.tear(0));
     finds("at(0, 0) of a torn one", x, NOTHING, () -> x.at(0, 0));
@@ -148,7 +72,7 @@ public final class PromiseTest {
 
   private static void moreRows() {
     SandPiano x = new SandPiano();
-    promise = 6;
+    about("promise 6");
     fill(x, 0, 1, 2, 3, 4, 5);
     due("copy to the right", x.copy(0, 0, 0, 1, 4), 1);
     row("copy to the right", x, 0, 1, 1, 2, 3, 4);
@@ -171,7 +95,7 @@ public final class PromiseTest {
     finds("copy -1 of a missing one", x, SIZE, () -> x.copy(3, 0, 1, 0, -1));
     refuses("copy from 6", x, BAD, () -> x.copy(6, 0, 1, 0, -1));
     refuses("copy to -1", x, BAD, () -> x.copy(0, 0, -1, 0, 1));
-    promise = 7;
+    about("promise 7");
     fill(x, 2, 1, 2, 2);
     due("mean(2)", x.mean(2), 1);
     due("mean(2) told", x.asked(), 1);
@@ -195,7 +119,7 @@ public final class PromiseTest {
 
   private static void texts() {
     SandPiano x = new SandPiano();
-    promise = 8;
+    about("promise 8");
     due("text(3, 60)", x.text(3, 60), 60);
     due("text(0, 0)", x.text(0, 0), 0);
     due("a blank", x.put(3, 59, 65), 1032);
@@ -205,7 +129,7 @@ public final class PromiseTest {
     refuses("text(4, 1)", x, BAD, () -> x.text(4, 1));
     refuses("text(-1, -1)", x, BAD, () -> x.text(-1, -1));
     finds("text(0, -1)", x, SIZE, () -> x.text(0, -1));
-    promise = 9;
+    about("promise 9");
     due("put(3, 59, 255)", x.put(3, 59, 255), 1065);
     due("put(3, 59, 128)", x.put(3, 59, 128), 999);
     due("put(3, 59, 127)", x.put(3, 59, 127), 872);
@@ -226,7 +150,7 @@ public final class PromiseTest {
   }
 
   private static void faults() {
-    promise = 10;
+    about("promise 10");
     faultDue("", 0);
     faultDue("   ", 3);
     faultDue("x", 0);
@@ -263,7 +187,7 @@ public final class PromiseTest {
   }
 
   private static void pianos() {
-    promise = 11;
+    about("promise 11");
     SandPiano x = new SandPiano();
     write(x, 0, " p3 k5042b3997 ");
     due("piano(0)", x.piano(0), 2);
@@ -289,7 +213,7 @@ public final class PromiseTest {
   }
 
   private static void keys() {
-    promise = 12;
+    about("promise 12");
     SandPiano x = piano("p1k5057b3044s2041s2050c6001d4063");
     int[][] due = {{0, 5, 5, 7, 1}, {1, 3, 4, 4, 0}, {2, 2, 4, 1, 1}, {2, 2, 5, 0, 0}, {3, 6, 0, 1, 1}, {4, 4, 6, 3, 0}};
     for (int i = 0; i < due.length; i++) {
@@ -312,7 +236,7 @@ public final class PromiseTest {
   }
 
   private static void marks() {
-    promise = 13;
+    about("promise 13");
     SandPiano x = piano("p2c5000b0031d0010s4050r2991c9000");
     due("a crab by the beach", x.mark(0, 3), 0);
     x.dig(4);
@@ -342,7 +266,7 @@ public final class PromiseTest {
   }
 
   private static void spades() {
-    promise = 14;
+    about("promise 14");
     SandPiano x = piano("p4k5990");
     due("spade(9)", x.spade(9), 4);
     due("spade(1)", x.spade(1), 9);
@@ -356,7 +280,7 @@ public final class PromiseTest {
   }
 
   private static void plays() {
-    promise = 15;
+    about("promise 15");
     SandPiano x = piano("p1k9021b9052d9033k9014");
     due("a key", x.play(0), 1);
     sand("a key", x, 0, 1, 6, 3, 1);
@@ -413,7 +337,7 @@ public final class PromiseTest {
   }
 
   private static void tides() {
-    promise = 16;
+    about("promise 16");
     SandPiano x = piano("p1k0000k0000k0000");
     due("tide(2)", x.tide(2), 3);
     sand("tide(2)", x, 0, 2, 1, 0);
@@ -433,7 +357,7 @@ public final class PromiseTest {
   }
 
   private static void storms() {
-    promise = 17;
+    about("promise 17");
     SandPiano x = piano("p1k0010k0020k0030");
     due("storm(0)", x.storm(0), 1);
     sand("storm(0)", x, 1, 2, 3, 0);
@@ -455,7 +379,7 @@ public final class PromiseTest {
   }
 
   private static void digsDone() {
-    promise = 18;
+    about("promise 18");
     SandPiano x = piano("p4k0000k0060");
     due("dig(1)", x.dig(1), 4);
     sand("dig(1)", x, 4, 0, 2);
@@ -474,7 +398,7 @@ public final class PromiseTest {
   }
 
   private static void undone() {
-    promise = 19;
+    about("promise 19");
     SandPiano x = piano("p3k9052k9043");
     x.tide(3); x.play(0); x.spade(7); x.dig(1); x.storm(0);
     sand("before", x, 14, 0, 0);
@@ -499,10 +423,10 @@ public final class PromiseTest {
   }
 
   private static void kept() {
-    promise = 20;
+    about("promise 20");
     SandPiano c = piano("p1k3031k3040s3050s3060r0990c0010");
     due("can()", c.can(), 1 + 4 + 16);
-    promise = 21;
+    about("promise 21");
     SandPiano x = piano("p3k9052c9043");
     due("keep(0)", x.keep(0), 0);
     x.tide(2); x.play(1); x.spade(5);
@@ -512,7 +436,7 @@ public final class PromiseTest {
     refuses("keep(-1)", x, BAD, () -> x.keep(-1));
     SandPiano y = new SandPiano();
     refuses("keep(0) of none", y, STATE, () -> y.keep(0));
-    promise = 22;
+    about("promise 22");
     x.dig(0); x.dig(1); x.spade(9); x.undo(0); x.storm(1); x.storm(1); x.storm(1);
     due("on(2)", x.on(2), 2);
     sand("on(2)", x, 0, 6, 6);
@@ -555,7 +479,7 @@ public final class PromiseTest {
   }
 
   private static void judged() {
-    promise = 23;
+    about("promise 23");
     SandPiano x = piano("p1c3001k3025b9993");
     fill(x, 0, 1, 1, 1, 0);
     due("judge(0)", x.judge(0), 4);
@@ -581,7 +505,7 @@ public final class PromiseTest {
   }
 
   private static void earned() {
-    promise = 24;
+    about("promise 24");
     SandPiano x = piano("p1c1001k3025r0993");
     x.play(2);
     fill(x, 0, 1, 2, 2, 1);
@@ -596,7 +520,7 @@ public final class PromiseTest {
   }
 
   private static void dug() {
-    promise = 25;
+    about("promise 25");
     SandPiano x = piano("p2k1040k1030k1020");
     fill(x, 0, 2, 1, 0);
     due("digs(0, 1)", x.digs(0, 1), 4);
@@ -640,7 +564,7 @@ public final class PromiseTest {
   }
 
   private static void lasting() {
-    promise = 26;
+    about("promise 26");
     SandPiano x = piano("p1k9000k9000");
     fill(x, 0, 1);
     due("lasts(0, 2)", x.lasts(0, 2), 9);
@@ -660,7 +584,7 @@ public final class PromiseTest {
   }
 
   private static void duets() {
-    promise = 27;
+    about("promise 27");
     SandPiano x = piano("p1k2021k2010");
     x.keep(1);
     x.tide(1);
@@ -695,7 +619,7 @@ public final class PromiseTest {
   }
 
   private static void theMost() {
-    promise = 28;
+    about("promise 28");
     SandPiano x = piano("p1k0000k0000k0000");
     due("all of them", x.most(0), 3);
     row("all of them", x, 0, 0, 1, 2);
@@ -721,7 +645,7 @@ public final class PromiseTest {
   }
 
   private static void theBest() {
-    promise = 29;
+    about("promise 29");
     SandPiano x = piano("p1k0005k9021b2025");
     x.play(0);
     due("best(2, 0)", x.best(2, 0), 10);
@@ -757,7 +681,7 @@ public final class PromiseTest {
   }
 
   private static void countedRows() {
-    promise = 30;
+    about("promise 30");
     SandPiano x = piano("p1k9020k9020");
     due("rows(0)", x.rows(0), 1);
     due("rows(0) told", x.asked(), 1);
@@ -786,7 +710,7 @@ public final class PromiseTest {
   }
 
   private static void backs() {
-    promise = 31;
+    about("promise 31");
     SandPiano x = piano("p1k9050k9040");
     fill(x, 0, 6, 4);
     due("back(0, 1, 1), not by one", x.back(0, 1, 1), 0);
@@ -859,7 +783,7 @@ public final class PromiseTest {
   }
 
   private static void rings() {
-    promise = 32;
+    about("promise 32");
     SandPiano x = piano("p1k0000k0990k0000k0000k0000k0000");
     x.row(0, 0);
     due("nothing known", x.ring(0), 63);
@@ -885,7 +809,7 @@ public final class PromiseTest {
   }
 
   private static void strikes() {
-    promise = 33;
+    about("promise 33");
     SandPiano x = piano("p1k0000k0000k0000k0000k0000k0000");
     x.row(0, 0);
     due("nothing known", x.strike(0), 1);
@@ -914,7 +838,7 @@ public final class PromiseTest {
   }
 
   private static void tunes() {
-    promise = 34;
+    about("promise 34");
     SandPiano x = piano("p1r0000k0010c1000");
     fill(x, 0, 0);
     due("tune(0)", x.tune(0), 1);
@@ -942,7 +866,7 @@ public final class PromiseTest {
   }
 
   private static void bets() {
-    promise = 35;
+    about("promise 35");
     SandPiano x = piano("p1k1020c3000");
     due("bet(0, 0)", x.bet(0, 0), 1);
     chances("not now", x, 0, 1);
@@ -987,7 +911,7 @@ public final class PromiseTest {
   }
 
   private static void winds() {
-    promise = 36;
+    about("promise 36");
     SandPiano x = piano("p1r0001r0002r0003k0990r0004");
     // 48271, 182605794, 1291394886, 1914720637 modulo 4: 3, 2, 2, 1.
     due("wind(1, 1)", x.wind(1, 1), 1);
@@ -1019,7 +943,7 @@ public final class PromiseTest {
   }
 
   private static void told() {
-    promise = 37;
+    about("promise 37");
     SandPiano x = piano("p1k9077");
     fill(x, 0, 8);
     x.at(0, 0);
@@ -1029,11 +953,11 @@ public final class PromiseTest {
     due("stays", x.asked(), 8);
     x.key(0, 2);
     due("key", x.asked(), 7);
-    promise = 38;
+    about("promise 38");
     fill(x, 0, 0);
     x.tune(0);
     due("upper", x.upper(), 1);
-    promise = 39;
+    about("promise 39");
     due("lower", x.lower(), 1);
     SandPiano y = piano("p1k0000r0000");
     fill(y, 0, 0, 0);
@@ -1044,7 +968,7 @@ public final class PromiseTest {
   }
 
   private static void counts() {
-    promise = 40;
+    about("promise 40");
     SandPiano x = piano("p1k9011b9000d9000d9000s9000");
     x.tide(3); x.dig(0); x.play(0); x.keep(1);
     x.row(0, 0); x.row(5, 1); x.row(3, 2); x.tear(3); x.text(3, 0);
@@ -1057,7 +981,7 @@ public final class PromiseTest {
   }
 
   private static void findingsTold() {
-    promise = 41;
+    about("promise 41");
     SandPiano x = new SandPiano();
     x.at(0, 0);
     due("NOTHING", x.finding(), NOTHING);
@@ -1073,7 +997,7 @@ public final class PromiseTest {
     due("SIZE", x.finding(), SIZE);
     x.row(0, 1); x.judge(0);
     due("UNLIKE", x.finding(), UNLIKE);
-    promise = 42;
+    about("promise 42");
     x.judge(0); x.judge(1);
     int[] due = {0, 2, 1, 2, 1, 1};
     for (int f = 1; f <= 5; f++) due("findings(" + f + ")", x.findings(f), due[f]);
@@ -1083,7 +1007,7 @@ public final class PromiseTest {
   }
 
   private static void digests() {
-    promise = 43;
+    about("promise 43");
     SandPiano x = piano("p2k1034d5006");
     x.tide(2); x.dig(0);
     x.keep(1);
