@@ -30,6 +30,11 @@ abstract class Edges extends Check {
   /** The words given for promises of these numbers are the document's. */
   static void quoted(int from, int to) {
     about("the document");
+    if (!Files.isReadable(DOCUMENT)) {
+      // The answers were compared all the same; only the words can't be.
+      System.out.println("no " + DOCUMENT + ": the words given are not compared with it");
+      return;
+    }
     String document = document();
     for (int promise = from; promise <= to; promise++) {
       String words = promise == TERMS ? terms(document) : promised(document, promise);

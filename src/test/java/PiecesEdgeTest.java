@@ -175,6 +175,12 @@ public final class PiecesEdgeTest extends Edges {
       digsFor("p1s0060", 4);
       digsFor("p1s0070", NONE);
       digsFor("p1r0990", 0);
+      SandPiano six = piano("p1k0000k0000k0000k0000k0000k0040");
+      fill(six, 0, 5);
+      due("the last of six", six.digs(0, 1), 4);
+      row("the last of six", six, 1, 5, 5, 5, 5);
+      six.tide(6);
+      due("five on the last of six", six.digs(0, 1), NONE);
       SandPiano x = piano("p1k0990r0000");
       x.row(0, 0);
       due("an empty one", x.digs(0, 1), 0);
@@ -450,6 +456,12 @@ public final class PiecesEdgeTest extends Edges {
       row("one that frees another", w, 0, 1, 0, 0);
       x.play(1);
       due("what was earned ahead is not counted", x.best(1, 0), 9);
+      due("the last of six keys", piano("p1r0001r0002r0003r0004r0005r0009").best(5, 0), 45);
+      // A grain from the beach stops the first crab, and the second when it carries it on: the dearest note comes late.
+      SandPiano u = piano("p9c0099c0004r0003");
+      u.dig(0);
+      due("the dearest note late", u.best(5, 0), 30);
+      row("the dearest note late", u, 0, 1, 1, 0, 1, 0);
     });
     says(29, "they come to a ROW (anew; ", () -> {
       SandPiano x = piano("p1r0003r0009");
@@ -548,6 +560,14 @@ public final class PiecesEdgeTest extends Edges {
       SandPiano z = piano("p1r0000r0000");
       z.rows(4);
       due("all alike", z.asked(), 1);
+      SandPiano v = piano("p1b9010r0000"), u = piano("p1r0000k9010");
+      v.rows(1);
+      due("unlike on the first key alone", v.asked(), 2);
+      u.rows(1);
+      due("unlike on the last key alone", u.asked(), 2);
+      mostSand();
+      manySands("p1b9061b9051c9041k9061k9041b9021", 1277, 126);
+      manySands("p1b9051d9051b9011d9071d9011d9051", 1296, 213);
       SandPiano w = piano("p1r0990c9000c9000");
       for (int i = 0; i < 57; i++) w.tide(i == 0 ? 0 : 1);
       due("much sand", w.rows(2), 9);
@@ -565,6 +585,29 @@ public final class PiecesEdgeTest extends Edges {
       refuses("a piano without keys", y, STATE, () -> y.rows(4));
       refuses("BAD ahead", y, BAD, () -> y.rows(5));
     });
+  }
+
+  /** So many by the model, too. */
+  private static void manySands(String s, int rows, int sands) {
+    SandPiano x = piano(s);
+    due("rows of " + s, x.rows(4), rows);
+    due("rows of " + s + ", told", x.asked(), sands);
+    Model m = new Model();
+    m.text(0, s.length());
+    for (int i = 0; i < s.length(); i++) m.put(0, i, s.charAt(i));
+    m.piano(0);
+    due("the model's rows of " + s, m.rows(4), rows);
+    due("the model's rows of " + s + ", told", m.asked(), sands);
+  }
+  /** 513 grains on the second key; the first one's only grain goes or stays. */
+  private static void mostSand() {
+    SandPiano x = piano("p1b9990r0000");
+    for (int i = 0; i < 46; i++) x.tide(9);
+    x.storm(1);
+    x.tide(1);
+    sand("beside 513", x, 368, 1, 513);
+    due("beside 513", x.rows(1), 2);
+    due("beside 513, told", x.asked(), 2);
   }
 
   private static void backs() {
@@ -605,6 +648,9 @@ public final class PiecesEdgeTest extends Edges {
       fill(x, 0, 0, 0);
       due("not from the beach of now", x.back(0, 1, 1), 0);
       due("nor by four", x.back(0, 4, 1), 0);
+      x.row(2, 0);
+      x.judge(2);
+      due("nor behind a judged piece", x.back(0, 1, 1), 0);
       fill(x, 0, 0, 1);
       due("from a beach that a note filled", x.back(0, 2, 1), 1);
       row("from a beach that a note filled", x, 1, 1, 0);

@@ -520,6 +520,11 @@ public final class RowsEdgeTest extends Edges {
       x.dig(1);
       due("the first, a grain on the beach", x.mark(0, 3), 1);
       due("six ahead", x.mark(2, 3), 6);
+      SandPiano y = piano("p9c9050c9000");
+      due("the second, five ahead", y.mark(1, 3), 5);
+      y.dig(0);
+      due("the second, all on the beach", y.mark(1, 3), 0);
+      due("the first, all on the beach", y.mark(0, 3), 5);
     });
     says(13, "a DRUM how many KEYS are on its left, ", () -> {
       SandPiano x = piano("p1d0000k0000d0990k0000k0000d0000");

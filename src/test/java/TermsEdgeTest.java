@@ -343,6 +343,10 @@ public final class TermsEdgeTest extends Edges {
       fault(s, NONE);
       fault(s + "b", 9);
       fault("p1k1011k1011k1011k1011k1011k101", 31);
+      // The same in texts that can't be longer.
+      fault(" ".repeat(59) + "p", 60);
+      for (int n = 1; n < 5; n++) fault("p1" + " ".repeat(58 - n) + "k1011".substring(0, n), 60);
+      fault("p1" + " ".repeat(53) + "k1011", NONE);
     });
     says(TERMS, "or there are blanks alone). ", () -> {
       for (int n : new int[] {0, 1, 2, 59, 60}) fault(" ".repeat(n), n);
@@ -495,6 +499,11 @@ public final class TermsEdgeTest extends Edges {
       x.storm(1);
       x.storm(1);
       sand("to the right", x, 0, 0, 0, 99, 98);
+      SandPiano six = piano("p1k0010k0020k0030k0040k0050k0060");
+      six.storm(0);
+      sand("six to the left", six, 1, 2, 3, 4, 5, 6, 0);
+      six.storm(1);
+      sand("six to the right", six, 1, 0, 2, 3, 4, 5, 6);
     });
     says(TERMS, "what lies on the last KEY that way comes to the BEACH. ", () -> {
       SandPiano x = piano("p1k0990k0500k0980");
