@@ -6,7 +6,7 @@ import java.util.Arrays;
 import java.util.List;
 
 /**
- * Every call with every mixture of numbers at and beyond the document's bounds, in several states of an object: it never
+ * Every call with all mixtures of a set of numbers at and beyond the bounds, in several states of an object: it never
  * throws, and answers as the model does.
  */
 public final class ExtremesTest {
