@@ -15,6 +15,7 @@ import java.util.regex.Pattern;
 /** The rules of LANGUAGE.md that can be seen from the class and from its text. Runs in the project's folder. */
 public final class RulesTest {
   private static final Path SOURCE = Path.of("src/main/java/SandPiano.java");
+  private static final Path DOCUMENT = Path.of("../shared/DOC.md");
   private static final String FACE = """
       int row(int, int)
       int lay(int, int, int)
@@ -60,8 +61,11 @@ public final class RulesTest {
       long digest()
       """;
   private static final String[] NEVER = {"\\bthrow", "\\btry\\b", "\\bcatch\\b", "\\bsynchronized\\b", "\\bassert\\b", "->", "::",
-    "\\bstatic\\s*\\{", "\\bpackage\\b", "\\bprotected\\b", "\\bhashCode\\b", "\\btoString\\b", "\\bExact\\b", "\\bvar\\b", "\\bdouble\\b",
+    "\\bstatic\\s*\\{", "\\bpackage\\b", "\\bprotected\\b", "\\bhashCode\\b", "\\btoString\\b", "Exact\\b", "\\bvar\\b", "\\bdouble\\b",
     "\\bfloat\\b", "\\bSystem\\.(?!arraycopy)", "\\bRandom\\b", "\\bThread\\b", "\\bnull\\b", "\\bimport (?!java\\.util\\.Arrays;)"};
+  private static final Pattern LIBRARY_CALL = Pattern.compile("\\b([A-Z][a-z]\\w*\\.\\w+)\\(");
+  private static final Set<String> LIBRARY = Set.of("Arrays.fill", "Arrays.copyOf", "Arrays.copyOfRange", "System.arraycopy",
+    "Math.min", "Math.max", "Math.abs", "Integer.bitCount", "Integer.compare", "Long.compare");
   private static final Pattern MACHINE_MADE = Pattern.compile("lambda\\$.*|access\\$.*|\\$.*");
   private static int wrong = 0;
 
@@ -92,6 +96,7 @@ public final class RulesTest {
       names.add(m.getName());
     }
     due("the public methods", methods, dueMethods);
+    if (Files.isReadable(DOCUMENT)) due("the document's face", told(Files.readString(DOCUMENT)), dueMethods);
     Constructor<?>[] made = c.getDeclaredConstructors();
     due("constructors", made.length, 1);
     due("the constructor", Modifier.isPublic(made[0].getModifiers()) && made[0].getParameterCount() == 0, true);
@@ -114,6 +119,14 @@ public final class RulesTest {
     }
   }
 
+  /** The methods of "The public face", without the names of what they take. */
+  private static Set<String> told(String document) {
+    Set<String> all = new TreeSet<>();
+    Matcher m = Pattern.compile("(?m)^    public (\\w+ \\w+\\([^)]*\\));$").matcher(document);
+    while (m.find()) all.add(m.group(1).replaceAll("\\b(int|long) \\w+(?=[,)])", "$1"));
+    return all;
+  }
+
   private static void inside() {
     Class<?>[] inside = SandPiano.class.getDeclaredClasses();
     due("at most twelve classes", inside.length < 12, true);
@@ -127,11 +140,23 @@ public final class RulesTest {
       int fields = 0;
       for (Field f : c.getDeclaredFields()) {
         if (!Modifier.isStatic(f.getModifiers())) fields++;
-        else due("static " + f.getName() + " is final", Modifier.isFinal(f.getModifiers()), true);
+        else staticField(f);
+        due(f.getName() + "'s type is allowed", allowed(f.getType()), true);
       }
       due(c.getName() + " has at most twenty fields", fields <= 20, true);
       for (Method m : c.getDeclaredMethods()) due(m.getName() + " takes at most seven", m.getParameterCount() <= 7, true);
     }
+  }
+
+  private static void staticField(Field f) {
+    due("static " + f.getName() + " is final", Modifier.isFinal(f.getModifiers()), true);
+    Set<Class<?>> types = Set.of(int.class, long.class, boolean.class, char.class, String.class, int[].class, long[].class,
+      char[].class, byte[].class);
+    due("static " + f.getName() + " is a constant", types.contains(f.getType()), true);
+  }
+  private static boolean allowed(Class<?> type) {
+    if (type.isArray()) return allowed(type.getComponentType());
+    return type.isPrimitive() || type == String.class || type.getNestHost() == SandPiano.class;
   }
 
   private static void text(String source) {
@@ -139,6 +164,13 @@ public final class RulesTest {
     for (String never : NEVER) {
       Matcher m = Pattern.compile(never).matcher(code);
       if (m.find()) due("'" + never + "' in the text", m.group(), "nothing");
+    }
+    Set<String> own = new TreeSet<>();
+    for (Class<?> c : SandPiano.class.getDeclaredClasses()) own.add(c.getSimpleName());
+    Matcher call = LIBRARY_CALL.matcher(code);
+    while (call.find()) {
+      String name = call.group(1);
+      due(name + " may be called", LIBRARY.contains(name) || own.contains(name.substring(0, name.indexOf('.'))), true);
     }
     for (int i = 0; i < source.length(); i++) {
       if (source.charAt(i) > 126) due("sign " + i, (int) source.charAt(i), "below 127");
